@@ -148,8 +148,8 @@ public final class LoopDevice {
         }
         if (busy || b == NO_BYTE) {
             reader.beginAnew();
-        } else if (reader.take(b)) {
-            endFrame();
+        } else if (reader.take(b) && countFrame()) {
+            answerFrame();
         }
         quietTicks = b == NO_BYTE && going == NO_BYTE ? quietTicks + 1 : 0;
         ticks++;
@@ -166,18 +166,15 @@ public final class LoopDevice {
         burstMaster = 1 - burstMaster;
     }
 
-    private void endFrame() {
-        if (!reader.sumIsRight || !isForDevice()) {
+    /** Counts the frame that has ended: whether it is good. */
+    private boolean countFrame() {
+        boolean good = reader.sumIsRight && isForDevice();
+        if (good) {
+            goodFrames++;
+        } else {
             otherFrames++;
-            return;
         }
-        goodFrames++;
-        int code = codeOfFrame();
-        // Every device at the loop hears a broadcast: only the one that it seeks may speak.
-        if (code != FINE && isBroadcast()) {
-            return;
-        }
-        answer(code);
+        return good;
     }
 
     private boolean isForDevice() {
@@ -192,7 +189,12 @@ public final class LoopDevice {
                 && reader.station() == 0 && reader.kind() == 0 && reader.number() == 0;
     }
 
-    private void answer(int code) {
+    private void answerFrame() {
+        int code = codeOfFrame();
+        // Every device at the loop hears a broadcast: only the one that it seeks may speak.
+        if (code != FINE && isBroadcast()) {
+            return;
+        }
         answers++;
         int master = reader.master();
         if (code == FINE) {
@@ -317,7 +319,7 @@ public final class LoopDevice {
         if (isLong) {
             writer.add(bits | holdings.maker);
             writer.add(holdings.kind);
-            writer.addThree(holdings.number);
+            addNumber();
         } else {
             writer.add(bits | holdings.shortAddress);
         }
@@ -349,7 +351,7 @@ public final class LoopDevice {
                 break;
             case READ_HEALTH:
                 writer.add(holdings.failed ? 1 : 0);
-                writer.add(answers & 255);
+                writer.add(answers);
                 break;
             default:
                 addEcho(command);
@@ -362,7 +364,13 @@ public final class LoopDevice {
         writer.add(holdings.maker);
         writer.add(holdings.kind);
         writer.add(5);
-        writer.addThree(holdings.number);
+        addNumber();
+    }
+
+    private void addNumber() {
+        writer.add(holdings.number >>> 16);
+        writer.add(holdings.number >>> 8);
+        writer.add(holdings.number);
     }
 
     private void addEcho(int command) {
@@ -498,6 +506,7 @@ public final class LoopDevice {
                 beginAnew();
                 return true;
             }
+            // Before a mark this is worth nothing: the mark sets the sum anew.
             sum ^= b;
             switch (place) {
                 case AT_ADDRESS:
@@ -625,22 +634,19 @@ public final class LoopDevice {
             add(mark);
         }
 
+        /** Adds the lowest eight bits, so that larger numbers are added by shifts alone. */
         void add(int b) {
             if (length >= 0 && length < bytes.length) {
-                bytes[length] = b;
+                bytes[length] = b & 255;
                 length++;
             }
         }
 
-        void addThree(int v) {
-            add((v >>> 16) & 255);
-            add((v >>> 8) & 255);
-            add(v & 255);
-        }
-
         void addFour(int v) {
-            add((v >>> 24) & 255);
-            addThree(v);
+            add(v >>> 24);
+            add(v >>> 16);
+            add(v >>> 8);
+            add(v);
         }
 
         /** The count is known only when all is written: its place is kept free until then. */

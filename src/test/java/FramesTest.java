@@ -164,6 +164,18 @@ public final class FramesTest {
         unansweredBroadcast("a count of 5", 32, 32, 32, 32, 32);
         unansweredBroadcast("a count of 7", 32, 32, 32, 32, 32, 32, 32);
         unansweredBroadcast("a count of 0");
+        broadcastToADeviceOfZeros();
+    }
+
+    /** Its own address is that of a broadcast: command 11 to it is one, all others are not. */
+    private static void broadcastToADeviceOfZeros() {
+        LoopDevice x = new LoopDevice(0, 0, 0);
+        int[] own = Wire.broadcast(0);
+        BENCH.due("another tag", Wire.ask(x, Wire.request(own, 11, 1, 2, 3, 4, 5, 6)), new int[0]);
+        counted("another tag for a device of zeros", x, 1, 0);
+        BENCH.due("its tag", Wire.ask(x, Wire.request(own, 11, Wire.row(6, 32))),
+                Wire.answer(own, 11, 0, 96, 254, 0, 0, 5, 0, 0, 0));
+        BENCH.due("another command", Wire.ask(x, Wire.request(own, 38)), Wire.answer(own, 38, 0, 0));
     }
 
     private static void unansweredBroadcast(String what, int... tag) {

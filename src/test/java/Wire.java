@@ -5,7 +5,7 @@ final class Wire {
     static final int MAKER = 5;
     static final int KIND = 7;
     static final int NUMBER = 0x010203;
-    /** Longer than any answer with its gap; shorter than nothing that a burst must not fill. */
+    /** Longer than any answer with its gap. */
     static final int LONG_ENOUGH = 40;
 
     private Wire() {
