@@ -11,8 +11,8 @@ final class Wire {
     private Wire() {
     }
 
-    static LoopDevice device() {
-        return new LoopDevice(MAKER, KIND, NUMBER);
+    static Device device() {
+        return new Device(MAKER, KIND, NUMBER);
     }
 
     static int masterBit(int master) {
@@ -85,7 +85,7 @@ final class Wire {
         return sending(129, inBurst(longAddress(master)), command, 0, status, data);
     }
 
-    static int feed(LoopDevice x, int... bytes) {
+    static int feed(Device x, int... bytes) {
         int total = 0;
         for (int b : bytes) {
             total = x.octet(b);
@@ -93,7 +93,7 @@ final class Wire {
         return total;
     }
 
-    static int[] sentBetween(LoopDevice x, int from, int to) {
+    static int[] sentBetween(Device x, int from, int to) {
         int[] bytes = new int[to - from];
         for (int i = 0; i < bytes.length; i++) {
             bytes[i] = x.sent(from + i);
@@ -102,20 +102,20 @@ final class Wire {
     }
 
     /** Feeds a frame and lets the answer go out: the bytes that went out meanwhile. */
-    static int[] ask(LoopDevice x, int[] request) {
+    static int[] ask(Device x, int[] request) {
         int before = feed(x, request);
         return sentBetween(x, before, x.tick(LONG_ENOUGH));
     }
 
     /** As ask, but not so long that a burst begins behind the answer. */
-    static int[] askBriefly(LoopDevice x, int[] request) {
+    static int[] askBriefly(Device x, int[] request) {
         int before = feed(x, request);
         x.tick(2);
         return sentBetween(x, before, passQuiet(x, 1));
     }
 
     /** Lets ticks pass until so many in a row sent nothing: how many bytes went out in all. */
-    static int passQuiet(LoopDevice x, int wanted) {
+    static int passQuiet(Device x, int wanted) {
         int total = x.tick(1);
         int quiet = 0;
         for (int i = 0; i < 1000 && quiet < wanted; i++) {
@@ -127,18 +127,29 @@ final class Wire {
     }
 
     /** A device with COLD cleared for both masters: both have had an answer. */
-    static LoopDevice warmDevice() {
-        LoopDevice x = device();
+    static Device warmDevice() {
+        Device x = device();
         ask(x, request(longAddress(0), 13));
         ask(x, request(longAddress(1), 13));
         return x;
     }
 
     /** A warm device with CHANGED cleared too: its status is 0. */
-    static LoopDevice calmDevice() {
-        LoopDevice x = device();
+    static Device calmDevice() {
+        Device x = device();
         ask(x, request(longAddress(0), 38));
         ask(x, request(longAddress(1), 38));
         return x;
+    }
+
+    /** Turns BURST on and lets the answer go out to its last byte: how many bytes went out in all. */
+    static int turnBurstOn(Device x) {
+        int before = feed(x, request(longAddress(0), 109, 1));
+        int length = answer(longAddress(0), 109, 0, 0, 1).length;
+        int after = x.tick(1 + length);
+        if (after != before + length) {
+            throw new IllegalStateException("109 was not answered as it is due");
+        }
+        return after;
     }
 }
