@@ -47,6 +47,7 @@ public final class CommandsTest {
         wrongBurstCommands();
         burstOnAndOff();
         wrongBurstSwitches();
+        settingChangesNothingElse();
         settingSetsChanged();
         refusedSettingLeavesChanged();
         readingLeavesChanged();
@@ -501,6 +502,32 @@ public final class CommandsTest {
         BENCH.due("while it is on", Wire.askBriefly(y, Wire.request(OWN, 109, 2)),
                 Wire.answer(Wire.inBurst(OWN), 109, 2, 64));
         BENCH.due("has(4)", y.has(4), 1);
+    }
+
+    /** Short address, unit, lower and upper end, BURST and its command; then the first byte of the tag. */
+    private static void settingChangesNothingElse() {
+        int[] ends = endsOf(2, 77, -77);
+        onlySet(Wire.request(OWN, 6, 3), 3, 0, 0, 10000, 0, 1, 32);
+        onlySet(Wire.request(OWN, 18, 3, 2, 2, 2, 2, 2), 0, 0, 0, 10000, 0, 1, 3);
+        onlySet(Wire.request(OWN, 35, ends), 0, 2, -77, 77, 0, 1, 32);
+        onlySet(Wire.request(OWN, 108, 3), 0, 0, 0, 10000, 0, 3, 32);
+        onlySet(Wire.request(OWN, 109, 1), 0, 0, 0, 10000, 1, 1, 32);
+    }
+
+    private static void onlySet(int[] request, long... due) {
+        Device x = Wire.calmDevice();
+        for (int i = 0; i < 4; i++) {
+            x.variable(i, 40 + i);
+        }
+        Wire.feed(x, request);
+        for (int i = 0; i < 6; i++) {
+            BENCH.due("has(" + i + ") behind " + Arrays.toString(request), x.has(i), due[i]);
+        }
+        BENCH.due("tag(0) behind " + Arrays.toString(request), x.tag(0), due[6]);
+        for (int i = 0; i < 4; i++) {
+            BENCH.due("variable " + i + " behind " + Arrays.toString(request), x.variable(i, 0), 40 + i);
+        }
+        BENCH.due("failure behind " + Arrays.toString(request), x.failure(false), 0);
     }
 
     /** "6, 18, 35, 108, 109 with the code 0 set CHANGED for both masters (before their answer tells it)." */

@@ -74,8 +74,8 @@ public final class RandomRunsTest {
         while (at < bytes.length) {
             octet(bytes[at] | random.nextInt() << 8);
             at++;
-            if (oneOf(150)) {
-                tick(1);
+            if (oneOf(60)) {
+                tick(random.nextInt(3) == 0 ? 1 : random.nextInt(2) * 1001);
             }
         }
     }
@@ -99,6 +99,7 @@ public final class RandomRunsTest {
             for (int i = 0; i < 6; i++) {
                 data[i] = m.tag(i);
             }
+            data[random.nextInt(6)] ^= oneOf(3) ? 1 << random.nextInt(8) : 0;
         }
         if (command == 35 && count == 9 && oneOf(2)) {
             return Wire.join(new int[] {data[0]}, Wire.four(number()), Wire.four(number()));
